@@ -504,7 +504,7 @@ public final class SmallCourt {
         rings.clear(personCount);
         for (int i = 0; i < claimCount; i++) {
             Claim each = claims[i];
-            rests[i] = each.isOpen(payments, now) ? each.restOn(payments, now, now) : 0;
+            rests[i] = each.restOn(payments, now, now);
             rings.owe(each.defendant.number, each.plaintiff.number, rests[i]);
         }
         int all = 0;
@@ -671,7 +671,7 @@ public final class SmallCourt {
         return sum <= 0 || by < 1 ? 0 : (sum - 1) / by + 1;
     }
 
-    /** What an ACT tells; its EITHER stands behind itself: two proofs, then what joins them. */
+    /** What an ACT tells; of its EITHER what is joined comes first, then what joins it. */
     private static final class Act {
         final int number;
         final int day;
@@ -1147,9 +1147,9 @@ public final class SmallCourt {
             return withOrder ? costs + tells.told[COST_ORDER] : costs;
         }
 
+        /** ORDERED, LATE and RIPE ones are just those with a REST: ahead of the ORDER and SERVED there is none. */
         boolean isOpen(Payments payments, int now) {
-            int standing = stateOn(payments, now, now);
-            return standing >= STATE_ORDERED && standing <= STATE_RIPE;
+            return restOn(payments, now, now) > 0;
         }
 
         int stateOn(Payments payments, int d, int k) {

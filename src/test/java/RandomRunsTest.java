@@ -33,11 +33,11 @@ public final class RandomRunsTest {
     }
 
     public static void main(String[] args) {
-        int runs = args.length > 0 ? Integer.parseInt(args[0]) : 1400;
+        int runs = args.length > 0 ? Integer.parseInt(args[0]) : 1600;
         long[] seen = new long[64];
         int failed = 0;
         for (int i = 0; i < runs && failed < 3; i++) {
-            if (!new RandomRunsTest(77000L + i, i % 7, seen).run()) {
+            if (!new RandomRunsTest(77000L + i, i % 8, seen).run()) {
                 failed++;
             }
         }
@@ -45,7 +45,7 @@ public final class RandomRunsTest {
             "TOO MUCH", "SPLIT", "LOST", "PROVED", "rings", "plans", "plans refused", "hard", "soft", "walks of 8",
             "fault 0", "fault 1", "fault 2", "fault 3", "fault 4", "gaoled", "seized over", "refused -2", "refused -3",
             "more than 4 open", "net of 2", "net of many", "600 payments"};
-        for (int i = 0; i < need.length && runs >= 1400; i++) {
+        for (int i = 0; i < need.length && runs >= 1600; i++) {
             if (seen[i] < 5) {
                 System.out.println("the random runs came to '" + need[i] + "' " + seen[i] + " times alone");
                 failed++;
@@ -83,7 +83,7 @@ public final class RandomRunsTest {
     }
 
     private int at(int least, int most) {
-        return random.nextInt(40) == 0 ? WILD[random.nextInt(WILD.length)] : least + random.nextInt(most - least + 1);
+        return random.nextInt(kind == 7 ? 4 : 40) == 0 ? WILD[random.nextInt(WILD.length)] : least + random.nextInt(most - least + 1);
     }
 
     private int someone() {
@@ -180,6 +180,14 @@ public final class RandomRunsTest {
 
     private String text() {
         StringBuilder text = new StringBuilder();
+        if (chance(6)) {
+            text.append("prove ");
+            for (int i = 19 + random.nextInt(3); i > 0; i--) {
+                text.append(PIECES[14 + random.nextInt(8)]).append(PIECES[28 + random.nextInt(5)]).append(i);
+                text.append(i == 1 ? "" : chance(50) ? " and " : " or ");
+            }
+            return text.toString();
+        }
         int clauses = 1 + random.nextInt(5);
         for (int i = 0; i < clauses; i++) {
             if (i > 0) text.append(chance(50) ? ";" : " ; ");
