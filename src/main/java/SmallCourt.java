@@ -245,7 +245,7 @@ public final class SmallCourt {
     }
 
     public int book(int p, int q, int day, int what) {
-        if (personAt(p) == null || personAt(q) == null || !isDay(day)) {
+        if (!areTwo(p, q) || !isDay(day)) {
             return NO_SUM;
         }
         switch (what) {
@@ -1329,7 +1329,8 @@ public final class SmallCourt {
 
     /** Who owes whom how much, the best ring of it, and the LEASTS that the latest net() took off. */
     private static final class Rings {
-        int count;
+        // Ahead of every net() there is no number of rings, which is not the same as none netted.
+        int count = NONE;
         int bestLength;
         int bestLeast;
         final int[] leasts = new int[MOST_CLAIMS];
@@ -1404,7 +1405,7 @@ public final class SmallCourt {
             for (int i = 0; i < bestLength; i++) {
                 owes[best[i] * MOST_PERSONS + best[placeAfter(i)]] -= bestLeast;
             }
-            if (count < MOST_CLAIMS) {
+            if (count >= 0 && count < MOST_CLAIMS) {
                 leasts[count] = bestLeast;
                 count++;
             }

@@ -45,7 +45,7 @@ final class PlainCourt {
     final List<Claim> heard = new ArrayList<>();
     final List<Payment> payments = new ArrayList<>();
     List<int[]> planned = List.of();
-    List<Integer> netted = List.of();
+    List<Integer> netted;
     List<Integer> listed = new ArrayList<>();
     List<Integer> walked = List.of();
 
@@ -150,7 +150,7 @@ final class PlainCourt {
     }
 
     int book(int p, int q, int day, int what) {
-        if (!isPerson(p) || !isPerson(q) || !in(day, 0, 7999) || !in(what, 0, 2)) return NO_SUM;
+        if (!isPerson(p) || !isPerson(q) || p == q || !in(day, 0, 7999) || !in(what, 0, 2)) return NO_SUM;
         return what == 0 ? bookSum(p, q, day) : what == 1 ? alike(p, q, day) : disorder(p);
     }
 
@@ -485,6 +485,7 @@ final class PlainCourt {
     }
 
     int netted(int k) {
+        if (netted == null) return -1;
         return k == -1 ? netted.size() : in(k, 0, netted.size() - 1) ? netted.get(k) : -1;
     }
 

@@ -122,6 +122,7 @@ public final class PromiseTest {
         due("planned(0, 0)", x.planned(0, 0), -1);
         due("walked(0)", x.walked(0), -1);
         due("netted(0)", x.netted(0), -1);
+        due("netted(NONE)", x.netted(-1), -1);
         due("NONE", SmallCourt.NONE, -1);
     }
 
@@ -428,7 +429,10 @@ public final class PromiseTest {
         due("all", x.book(0, 1, 7999, 0), 662);
         due("the other book", x.book(1, 0, 7999, 0), 9000);
         due("with another", x.book(0, 2, 50, 0), 8);
-        due("with oneself", x.book(0, 0, 50, 0), 0);
+        for (int what = 0; what < 3; what++) {
+            due("of oneself, what " + what, x.book(0, 0, 50, what), NO_SUM);
+            due("of oneself without LINES, what " + what, x.book(4, 4, 50, what), NO_SUM);
+        }
         due("disorder", x.book(0, 1, 0, 2), 2);
         due("disorder", x.book(0, 4, 50, 2), 2);
         due("disorder of 1", x.book(1, 0, 50, 2), 0);
@@ -1195,8 +1199,11 @@ public final class PromiseTest {
 
     private static void netted() {
         SmallCourt x = round();
-        due("ahead of a net", x.netted(-1), 0);
+        due("ahead of a net", x.netted(-1), -1);
+        due("ahead of a net", x.netted(0), -1);
         owes(x, 0, 1, 7);
+        due("a net() that nets nothing", x.net(), 0);
+        due("is the latest one", x.netted(-1), 0);
         owes(x, 1, 0, 9);
         x.net();
         due("rings", x.netted(-1), 1);

@@ -414,8 +414,8 @@ public final class RandomRunsTest {
         int k = someClaim(), what = at(0, 13), one = someone();
         if (chance(40) && !plain.claims.isEmpty()) k = random.nextInt(plain.claims.size());
         int day = at(Math.max(0, plain.now - 60), Math.min(7999, plain.now + 60));
-        int known = at(Math.max(0, plain.now - 60), plain.now);
-        switch (random.nextInt(kind == 5 ? 8 : 7)) {
+        int known = at(Math.max(0, plain.now - 60), Math.min(7999, plain.now + 10));
+        switch (random.nextInt(kind == 5 ? 10 : 9)) {
             case 0: due("claim(" + k + "," + what + ")", court.claim(k, what), plain.claim(k, what)); break;
             case 1: count(); break;
             case 2: {
@@ -430,6 +430,13 @@ public final class RandomRunsTest {
                         court.state(k, day, known, w), plain.state(k, day, known, w));
                 }
                 break;
+            case 6: latest(at(-2, 2), at(0, 2)); break;
+            case 7: {
+                int q = someone(), w = at(-1, 3);
+                due("book(" + one + "," + q + "," + day + "," + w + ")",
+                    court.book(one, q, day, w), plain.book(one, q, day, w));
+                break;
+            }
             default:
                 for (int w = 0; w < 3 && !over(); w++) {
                     int got = court.habit(one, w);
@@ -437,5 +444,12 @@ public final class RandomRunsTest {
                     if (w == 2 && got > 0) seen[16 + got]++;
                 }
         }
+    }
+
+    /** What the latest net(), plan() and walk() told, be there one or none yet. */
+    private void latest(int k, int what) {
+        due("netted(" + k + ")", court.netted(k), plain.netted(k));
+        if (!over()) due("planned(" + k + "," + what + ")", court.planned(k, what), plain.planned(k, what));
+        if (!over()) due("walked(" + k + ")", court.walked(k), plain.walked(k));
     }
 }
