@@ -953,7 +953,7 @@ public final class SmallCourt {
         private int readNumber() {
             int from = at;
             int number = 0;
-            while (isDigit(at)) {
+            while (at < length && isDigit(at)) {
                 if (at - from < MOST_DIGITS) {
                     number = number * 10 + text[at] - '0';
                 }
