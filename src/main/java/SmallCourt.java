@@ -1166,7 +1166,7 @@ public final class SmallCourt {
             if (missed < act.told[LATE_AT]) {
                 return STATE_ORDERED;
             }
-            return missed < act.told[GAOL_AT] ? STATE_LATE : STATE_RIPE;
+            return missed < act.told[LATE_AT] + act.told[GAOL_AT] ? STATE_LATE : STATE_RIPE;
         }
 
         private int stateAheadOfOrder(int d) {

@@ -747,8 +747,9 @@ public final class ActBoundaryTest {
         Trial.due("costs", x.order(0, 10), 107);
         x.clock(8);
         Trial.due("late", x.state(0, 8, 8, 0), 5);
-        x.clock(15);
-        Trial.due("gaol", x.state(0, 15, 15, 0), 6);
+        Trial.due("late and gaol, the DAY ahead", x.state(0, 21, 8, 0), 5);
+        x.clock(22);
+        Trial.due("late and gaol", x.state(0, 22, 22, 0), 6);
         Trial.due("cost of a seizure", x.seize(0, 1), 114);
         Trial.due("gaol's d, longest", x.gaol(0), 20);
     }

@@ -119,7 +119,7 @@ public final class ClaimBoundaryTest {
     }
 
     private static SmallCourt threeFiled() {
-        SmallCourt x = Trial.court(PLAIN);
+        SmallCourt x = Trial.court(PLAIN + ";late 2;gaol 2 1");
         for (int i = 0; i < 3; i++) {
             x.file(0, 1, 5, 0, false, 0);
         }
@@ -751,6 +751,10 @@ public final class ClaimBoundaryTest {
         Trial.refused(ClaimBoundaryTest::lateAndSeized, "LATE and SEIZED", x -> x.gaol(0), -1);
         SmallCourt x = lateAndSeized();
         x.clock(35);
+        Trial.due("gaol's n of 5 MISSED, not late's 1 more", x.gaol(0), -1);
+        x.clock(41);
+        Trial.due("the DAY ahead", x.gaol(0), -1);
+        x.clock(42);
         Trial.due("RIPE now", x.gaol(0), 9);
         Trial.due("once", x.gaol(0), -1);
         x = Trial.busy();
@@ -774,43 +778,57 @@ public final class ClaimBoundaryTest {
     private static void ripe() {
         Trial.says("III: RIPE (late and gaol's n or more)");
         for (int n : new int[] {1, 2, 4, 20}) {
-            for (int late : new int[] {1, n, 20}) {
+            for (int late : new int[] {1, 2, n, 20}) {
                 SmallCourt x = Trial.court(PLAIN + ";late " + late + ";gaol " + n + " 1");
-                int a = Trial.ordered(x, 0, 1, 300, 10);
-                int both = Math.max(n, late);
-                int oneLess = both - 1 >= late ? 5 : 4;
-                Trial.due("a DAY ahead of " + both, x.state(a, 7 * both - 1, 0, 0), oneLess);
-                Trial.due("missed " + both, x.state(a, 7 * both, 0, 0), 6);
-                Trial.due("missed " + (late - 1), x.state(a, 7 * late - 1, 0, 0), 4);
-                Trial.due("missed " + late, x.state(a, 7 * late, 0, 0), late >= n ? 6 : 5);
+                int a = Trial.ordered(x, 0, 1, 500, 10);
+                int both = late + n;
+                String told = "late " + late + ", gaol " + n + ": ";
+                Trial.due(told + "a DAY ahead of both", x.state(a, 7 * both - 1, 0, 0), 5);
+                Trial.due(told + "missed both", x.state(a, 7 * both, 0, 0), 6);
+                Trial.due(told + "missed one more", x.state(a, 7 * both + 7, 0, 0), 6);
+                Trial.due(told + "missed late less one", x.state(a, 7 * late - 1, 0, 0), 4);
+                Trial.due(told + "missed late", x.state(a, 7 * late, 0, 0), 5);
+                Trial.due(told + "missed n", x.state(a, 7 * n, 0, 0), n < late ? 4 : 5);
                 x.clock(7 * both);
-                x.pay(a, 0, 10);
-                Trial.due("one is paid", x.state(a, 7 * both, 7 * both, 0), oneLess);
+                x.pay(a, 0, 9);
+                Trial.due(told + "missed both, upwards", x.state(a, 7 * both, 7 * both, 0), 6);
+                x.pay(a, 0, 1);
+                Trial.due(told + "one is paid", x.state(a, 7 * both, 7 * both, 0), 5);
             }
         }
+        SmallCourt x = Trial.court("");
+        int a = Trial.ordered(x, 0, 1, 200, 12);
+        Trial.due("without, the DAY ahead", x.state(a, 41, 0, 0), 5);
+        Trial.due("without: 2 and 4", x.state(a, 42, 0, 0), 6);
     }
 
-    private static int daysOf(int sum, int d, int longest) {
+    /** RIPE is two MISSED at least, so that a REST of 2 by 1 a week is the least that leads to gaol. */
+    private static int daysOf(int rest, int d, int longest) {
         SmallCourt x = Trial.court(PLAIN + ";gaol 1 " + d + ";late 1;longest " + longest);
-        Trial.ordered(x, 0, 1, sum, 9999);
-        x.clock(7);
+        Trial.ordered(x, 0, 1, rest + 1, Math.max(1, rest / 2));
+        x.clock(28);
         x.seize(0, 1);
         return x.gaol(0);
     }
 
     private static void days() {
         Trial.says("III: DAYS: REST by 12, upwards, times d, longest at most");
-        int[][] cases = {{2, 1, 400, 1}, {13, 1, 400, 1}, {14, 1, 400, 2}, {25, 1, 400, 2}, {26, 1, 400, 3},
-            {13, 30, 400, 30}, {14, 30, 400, 60}, {121, 2, 20, 20}, {122, 2, 20, 20}, {122, 2, 21, 21}, {122, 2, 22, 22},
-            {122, 2, 23, 22}, {9999, 30, 400, 400}, {9999, 1, 400, 400}, {2, 30, 1, 1}, {2, 1, 1, 1}, {4801, 1, 400, 400},
-            {4789, 1, 400, 399}};
+        int[][] cases = {{2, 1, 400, 1}, {12, 1, 400, 1}, {13, 1, 400, 2}, {24, 1, 400, 2}, {25, 1, 400, 3},
+            {12, 30, 400, 30}, {13, 30, 400, 60}, {120, 2, 20, 20}, {121, 2, 20, 20}, {121, 2, 21, 21}, {121, 2, 22, 22},
+            {121, 2, 23, 22}, {9998, 30, 400, 400}, {9998, 1, 400, 400}, {2, 30, 1, 1}, {2, 1, 1, 1}, {4800, 1, 400, 400},
+            {4788, 1, 400, 399}};
         for (int[] c : cases) {
-            Trial.due("REST " + (c[0] - 1) + ", d " + c[1] + ", longest " + c[2], daysOf(c[0], c[1], c[2]), c[3]);
+            Trial.due("REST " + c[0] + ", d " + c[1] + ", longest " + c[2], daysOf(c[0], c[1], c[2]), c[3]);
         }
+        Trial.due("REST 1 is MISSED once, never RIPE", daysOf(1, 1, 400), -1);
         SmallCourt x = Trial.court("");
         Trial.ordered(x, 0, 1, 480, 12);
         x.clock(28);
         x.seize(0, 1);
+        Trial.due("without: gaol's 4 alone", x.gaol(0), -1);
+        x.clock(41);
+        Trial.due("without: the DAY ahead", x.gaol(0), -1);
+        x.clock(42);
         Trial.due("without: 479 by 12, times 1", x.gaol(0), 40);
     }
 
@@ -898,7 +916,7 @@ public final class ClaimBoundaryTest {
 
     private static void statesByDays() {
         Trial.says("22: 0: STATE on the DAY of what was done and on the DAY ahead; 1 to 4: 0 ahead of the ORDER");
-        SmallCourt x = Trial.court(PLAIN + ";late 1;gaol 3 1;cost seizure 7");
+        SmallCourt x = Trial.court(PLAIN + ";late 1;gaol 2 1;cost seizure 7");
         x.clock(10);
         x.file(0, 1, 100, 0, false, 0);
         x.clock(20);

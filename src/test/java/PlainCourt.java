@@ -332,9 +332,8 @@ final class PlainCourt {
         if (by(c.served, d)) return 8;
         if (by(c.ordered, d)) {
             if (rest(c, d, k) == 0) return 7;
-            int missed = missed(c, d, k);
-            boolean late = missed >= c.act.text.values[5];
-            return late && missed >= c.act.text.values[6] ? 6 : late ? 5 : 4;
+            int behindLate = missed(c, d, k) - c.act.text.values[5];
+            return behindLate < 0 ? 4 : behindLate < c.act.text.values[6] ? 5 : 6;
         }
         if (by(c.heard, d)) return c.judged == 5 ? 3 : 2;
         return by(c.found, d) ? 1 : 0;

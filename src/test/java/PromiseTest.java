@@ -805,11 +805,12 @@ public final class PromiseTest {
         due("over", x.seize(b, 200), -(201 - 130));
         due("over", x.state(b, 14, 14, 4), 71);
         due("clear", x.state(b, 14, 14, 0), 7);
-        x.clock(28);
-        due("ripe", x.state(c, 28, 28, 0), 6);
+        x.clock(42);
+        due("late", x.state(c, 28, 42, 0), 5);
+        due("ripe", x.state(c, 42, 42, 0), 6);
         x.dies(1);
         due("of the dead", x.seize(c, 130), 0);
-        due("clear", x.state(c, 28, 28, 0), 7);
+        due("clear", x.state(c, 42, 42, 0), 7);
         int d = ordered(x, 1, 0, 100, 10);
         due("ordered alone", x.seize(d, 10), NO_SUM);
     }
@@ -826,17 +827,19 @@ public final class PromiseTest {
         x.seize(a, 34);
         due("missed 6 of 40 less than 4", x.gaol(a), -1);
         x.clock(49);
-        due("state", x.state(a, 49, 49, 0), 6);
+        due("missed 36 of 70: 4, less than 2 and 4", x.gaol(a), -1);
+        x.clock(63);
+        due("state", x.state(a, 63, 63, 0), 6);
         due("rest 96 by 12, times 3", x.gaol(a), 24);
-        due("served", x.state(a, 49, 49, 0), 8);
-        due("rest", x.state(a, 49, 49, 1), 0);
-        due("missed", x.state(a, 60, 60, 2), 0);
-        due("over", x.state(a, 49, 49, 4), 0);
-        due("paid", x.state(a, 49, 49, 3), 34);
-        due("the DAY ahead", x.state(a, 48, 49, 0), 5);
-        due("the DAY ahead", x.state(a, 48, 49, 1), 96);
+        due("served", x.state(a, 63, 63, 0), 8);
+        due("rest", x.state(a, 63, 63, 1), 0);
+        due("missed", x.state(a, 80, 80, 2), 0);
+        due("over", x.state(a, 63, 63, 4), 0);
+        due("paid", x.state(a, 63, 63, 3), 34);
+        due("the DAY ahead", x.state(a, 62, 63, 0), 5);
+        due("the DAY ahead", x.state(a, 62, 63, 1), 96);
         due("again", x.gaol(a), -1);
-        due("no PAYMENTS then", x.pay(a, 49, 5), -1);
+        due("no PAYMENTS then", x.pay(a, 63, 5), -1);
         x.seize(b, 5);
         due("longest", x.gaol(b), 26);
         x.seize(c, 33);
@@ -891,9 +894,9 @@ public final class PromiseTest {
         x.clock(8);
         x.order(0, 10);
         x.clock(9);
-        int[] days = {5, 6, 7, 8, 14, 15, 21, 22, 28, 29, 43, 7999};
-        int[] states = {0, 1, 3, 4, 4, 4, 4, 5, 5, 6, 6, 6};
-        int[] missed = {0, 0, 0, 0, 0, 1, 1, 2, 2, 3, 5, 5};
+        int[] days = {5, 6, 7, 8, 14, 15, 21, 22, 28, 29, 42, 43, 7999};
+        int[] states = {0, 1, 3, 4, 4, 4, 4, 5, 5, 5, 5, 6, 6};
+        int[] missed = {0, 0, 0, 0, 0, 1, 1, 2, 2, 3, 4, 5, 5};
         for (int i = 0; i < days.length; i++) {
             due("state on " + days[i], x.state(0, days[i], 9, 0), states[i]);
             due("rest on " + days[i], x.state(0, days[i], 9, 1), days[i] < 8 ? 0 : 50);
@@ -912,9 +915,11 @@ public final class PromiseTest {
         due("against", x.state(1, 9, 9, 1), 0);
         due("paid", x.state(1, 9, 9, 3), 0);
         SmallCourt y = court("week 1;keep 0;late 4;gaol 2 1;prove oath=1");
-        ordered(y, 0, 1, 50, 10);
+        ordered(y, 0, 1, 60, 10);
         due("gaol's n, not late", y.state(0, 21, 0, 0), 4);
-        due("late and gaol's n", y.state(0, 28, 0, 0), 6);
+        due("late, more than gaol's n", y.state(0, 28, 0, 0), 5);
+        due("one less than both", y.state(0, 41, 0, 0), 5);
+        due("late and gaol's n", y.state(0, 42, 0, 0), 6);
     }
 
     private static void known() {

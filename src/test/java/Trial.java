@@ -141,7 +141,7 @@ final class Trial {
      */
     static SmallCourt busy() {
         SmallCourt x = new SmallCourt();
-        act(x, 0, "most 900;split 0;week 5;keep 1;late 2;gaol 3 2;longest 30;age 0;cost summons 1;cost hearing 2;"
+        act(x, 0, "most 900;split 0;week 5;keep 1;late 2;gaol 1 2;longest 30;age 0;cost summons 1;cost hearing 2;"
             + "cost order 3;cost seizure 4;prove oath=1");
         act(x, 60, "most 55");
         for (int i = 0; i < 8; i++) {
